@@ -406,12 +406,12 @@ public final class SieveDesk {
             length = scriptLength;
             at = 0;
             for (int turn = 0; turn < MOST_TOKENS; turn++) {
-                boolean closed = skipGap();
+                skipGap();
                 if (at >= length) {
                     add(END, Word.NONE, 0, at);
                     return;
                 }
-                if (!closed || !scanToken()) {
+                if (!scanToken()) {
                     add(BAD, Word.NONE, 0, at);
                     return;
                 }
@@ -435,8 +435,8 @@ public final class SieveDesk {
             return i >= 0 && i < length && i < script.length ? script[i] & 255 : -1;
         }
 
-        /** False, and still at its first byte, if a comment has no end. */
-        private boolean skipGap() {
+        /** A comment without an end is left where it is: no token begins as it does. */
+        private void skipGap() {
             for (int turn = 0; turn < MOST_BYTES && at < length; turn++) {
                 int b = byteAt(at);
                 if (b == ' ' || b == TAB || b == LINE_FEED || b == RETURN) {
@@ -447,14 +447,13 @@ public final class SieveDesk {
                 } else if (b == '/' && byteAt(at + 1) == '*') {
                     int next = behindComment(at + 2);
                     if (next < 0) {
-                        return false;
+                        return;
                     }
                     at = next;
                 } else {
-                    return true;
+                    return;
                 }
             }
-            return true;
         }
 
         private int behindComment(int from) {

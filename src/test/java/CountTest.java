@@ -101,9 +101,35 @@ public final class CountTest {
         Desk.put(desk, "}");
         Desk.due("check()", desk.check(), 1);
         Desk.due("place()", desk.place(), 0);
+        staleBytes(desk);
         Desk.due("check() of no script", desk.check(), 0);
         Desk.due("place()", desk.place(), -1);
         Desk.due("count(1)", desk.count(1), 0);
+    }
+
+    /** What an earlier, longer script left behind the end must not be read. */
+    private static void staleBytes(SieveDesk desk) {
+        String[] parts = {"keep", ";", "require\"reject\";reject text:\n.", "\n;", "require\"reject\";reject text:\n.\r",
+            "\n;", "/*", "*/", "/* *", "/", "redirect\"a@b", "\";", "redirect\"a@b\\", "x\";", "if true{", "}",
+            "if true{\n", "\n}", "if size:over 1", "{}", "if size:over", " 1{}"};
+        for (int i = 0; i < parts.length; i += 2) {
+            Desk.put(desk, parts[i] + parts[i + 1]);
+            Desk.due(parts[i] + parts[i + 1] + ": check()", desk.check(), 0);
+            Desk.put(desk, parts[i]);
+            Desk.due(parts[i] + ": is at fault", desk.check() > 0, true);
+        }
+        Desk.put(desk, "\n".repeat(400));
+        Desk.due("check()", desk.check(), 0);
+        Desk.put(desk, "keep");
+        Desk.due("check()", desk.check(), 1);
+        Desk.due("place()", desk.place(), 4);
+        Desk.put(desk, "keep;kk");
+        Desk.due("check()", desk.check(), 1);
+        Desk.put(desk, "if size:over 1k{}");
+        Desk.due("check()", desk.check(), 0);
+        Desk.put(desk, "if size:over 1");
+        Desk.due("check()", desk.check(), 1);
+        Desk.due("place()", desk.place(), 14);
     }
 
     private static void lines() {

@@ -35,7 +35,9 @@ public final class GrammarTest {
             "if exists[" + ten + "<!>\"b\"]{}", "if exists[" + ten + ",<!>\"", "if exists[" + ten + ",<!>,",
             "if exists[<!>]{}", "if exists[<!>,\"a\"]{}", "if exists[\"a\",<!>]{}", "if exists[\"a\"<!>\"b\"]{}",
             "if exists[\"a\",<!>,\"b\"]{}", "if exists[<!>[\"a\"]]{}", "if exists<!>{}", "if exists\"a\"<!>,\"b\"{}",
-            "if exists[\"a\"<!>{}", "if exists[\"a\"]<!>]{}", "if exists[\"a\"<!>)", "if exists[<!>1]{}", "if exists[<!>a]{}");
+            "if exists[\"a\"<!>{}", "if exists[\"a\"]<!>]{}", "if exists[\"a\"<!>)", "if exists[<!>1]{}", "if exists[<!>{}", "if exists[" + ten + ",<!>{}",
+            "if header[\"a\",<!>[\"b\"]{}", "if header[" + ten + ",<!>[\"b\"]{}",
+            "if exists[<!>a]{}");
     }
 
     private static void simpleCommands() {
@@ -132,7 +134,8 @@ public final class GrammarTest {
             ALL + "if hasflag\"a\"<!>\"b\"{}", ALL + "if hasflag<!>{}", ALL + "if hasflag:is<!>:is\"a\"{}",
             "if exists<!>:is\"a\"{}", "if exists\"a\"<!>\"b\"{}",
             "if size:over 1{}", "if size:UNDER 1k{}", "if size <!>1{}", "if size:over<!>{}", "if size:over<!>\"1\"{}",
-            "if size:over 1<!>:under 2{}", "if size:over<!>:under 2{}", "if size<!>:is 1{}", "if size:over 1 <!>1{}", "if size<!>{}",
+            "if size:over 1<!>:under 2{}", "if size <!>over 1{}", "if size <!>under 1{}",
+            "if size:over<!>:under 2{}", "if size<!>:is 1{}", "if size:over 1 <!>1{}", "if size<!>{}",
             "if allof(true){}", "if anyof(true,false,true){}", "if allof(anyof(true),not false){}", "if allof <!>true{}",
             "if allof(<!>){}", "if allof(true<!>{}", "if allof(true,<!>){}", "if allof(true <!>true){}", "if allof(<!>,true){}",
             "if allof(true)<!>,true{}", "if allof(true)<!>){}", "if anyof<!>[true]{}", "if anyof(true<!>;", "if allof<!>{}",
