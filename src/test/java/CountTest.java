@@ -2,6 +2,9 @@
 public final class CountTest {
     public static void main(String[] args) {
         whats();
+        aheadOfTheFault();
+        byWhatItSays();
+        oneCheckEach();
         required();
         things();
         strings();
@@ -12,13 +15,115 @@ public final class CountTest {
     }
 
     private static void whats() {
+        Desk.sentence("-1 for another what");
         SieveDesk desk = new SieveDesk();
-        Desk.put(desk, "keep;");
-        int[] others = {4, -1, 5, 7, 8, 255, 256, Integer.MAX_VALUE, Integer.MIN_VALUE};
-        for (int what : others) {
-            Desk.due("count(" + what + ")", desk.count(what), -1);
+        int[] others = {4, -1, 5, 7, 8, 16, 255, 256, 257, -2, -3, 1 << 16, Integer.MAX_VALUE, Integer.MIN_VALUE};
+        String[] scripts = {"", "keep;", "require\"copy\";redirect:copy\"a\";"};
+        for (String script : scripts) {
+            for (int what : others) {
+                Desk.due("count(" + what + ")", desk.count(what), -1);
+            }
+            Desk.put(desk, script);
+            Desk.due("count(0)", desk.count(0), script.length());
+            for (int what : others) {
+                Desk.due("put: count(" + what + ")", desk.count(what), -1);
+            }
+            desk.check();
         }
-        Desk.due("count(0)", desk.count(0), 5);
+        Desk.due("the last what: count(3)", desk.count(3), 8);
+        Desk.due("the one behind it: count(4)", desk.count(4), -1);
+        Desk.due("the first what: count(0)", desk.count(0), 0);
+        Desk.due("the one ahead of it: count(-1)", desk.count(-1), -1);
+    }
+
+    /** Tokens, each with what it adds: c a command or test, s a string, a number what is required. */
+    private static final String[][] WALKS = {
+        {"require", "", "[", "", "\"fileinto\"", "1", ",", "", "\"copy\"", "8", ",", "", "\"imap4flags\"", "16", "]", "", ";", "",
+            "require", "", "\"relational\"", "32", ";", "", "require", "", "\"COPY\"", "8", ";", "",
+            "if", "c", "allof", "c", "(", "", "header", "c", ":count", "", "\"ge\"", "s", ":comparator", "", "\"i;octet\"", "s",
+            "[", "", "\"a\"", "s", ",", "", "\"b\"", "s", "]", "", "\"c\"", "s", ",", "", "not", "c", "size", "c", ":over", "", "1K", "",
+            ",", "", "hasflag", "c", "\"x\"", "s", ")", "", "{", "", "fileinto", "c", ":copy", "", ":flags", "", "\"f\"", "s",
+            "\"box\"", "s", ";", "", "}", "", "keep", "c", ":flags", "", "[", "", "\"a\"", "s", "]", "", ";", ""},
+        {"require", "", "[", "", "\"reject\"", "2", ",", "", "\"envelope\"", "4", ",", "", "\"vacation\"", "64", ",", "",
+            "\"comparator-i;ascii-numeric\"", "128", "]", "", ";", "", "if", "c", "true", "c", "{", "", "stop", "c", ";", "", "}", "",
+            "elsif", "", "exists", "c", "text:\n.\n", "s", "{", "", "if", "c", "false", "c", "{", "", "}", "", "}", "", "else", "", "{", "",
+            "discard", "c", ";", "", "}", "", "vacation", "c", ":days", "", "1", "", ":subject", "", "\"s\"", "s", ":addresses", "",
+            "[", "", "\"a\"", "s", ",", "", "\"b\"", "s", "]", "", ":handle", "", "\"h\"", "s", "\"r\"", "s", ";", "",
+            "redirect", "c", "\"a@b\"", "s", ";", "", "reject", "c", "\"\"", "s", ";", "", "if", "c", "envelope", "c", ":domain", "",
+            ":comparator", "", "\"i;ascii-numeric\"", "s", "\"a\"", "s", "\"b\"", "s", "{", "", "}", ""}};
+
+    /** Cuts the scripts behind each token: by the end, and by a byte at which no token stands. */
+    private static void aheadOfTheFault() {
+        Desk.sentence("as far as it was read ahead of its fault's token");
+        for (String[] walk : WALKS) {
+            StringBuilder script = new StringBuilder();
+            int things = 0;
+            int strings = 0;
+            int required = 0;
+            for (int i = 0; i < walk.length; i += 2) {
+                Desk.read(script + "<!>@", things, strings, required);
+                Desk.read(script + "<!>foo\n\"\" keep;", things, strings, required);
+                Desk.read(script + "<!>/*" + walk[i], things, strings, required);
+                script.append(walk[i]).append(' ');
+                things += walk[i + 1].equals("c") ? 1 : 0;
+                strings += walk[i + 1].isEmpty() || walk[i + 1].equals("c") ? 0 : 1;
+                required |= walk[i + 1].matches("[0-9]+") ? Integer.parseInt(walk[i + 1]) : 0;
+            }
+            Desk.read(script.toString(), things, strings, required);
+        }
+    }
+
+    /** Each such string counts; the same one where it is at fault for something else does not. */
+    private static void byWhatItSays() {
+        Desk.sentence("2 strings (one that is at fault by what it says counts, too)");
+        Desk.read(Desk.ALL + "if header:count<!>\"x\"\"a\"\"b\"{}", 2, 9, 255);
+        Desk.read(Desk.ALL + "if header:value<!>\"\"\"a\"\"b\"{}", 2, 9, 255);
+        Desk.read(Desk.ALL + "if header:comparator<!>\"x\"\"a\"\"b\"{}", 2, 9, 255);
+        Desk.read("if header:comparator<!>\"i;ascii-numeric\"\"a\"\"b\"{}", 2, 1, 0);
+        Desk.read(Desk.ALL + "fileinto<!>\"\";", 1, 9, 255);
+        Desk.read(Desk.ALL + "fileinto<!>\"" + "a".repeat(21) + "\";", 1, 9, 255);
+        Desk.read(Desk.ALL + "fileinto<!>\"\n\";", 1, 9, 255);
+        Desk.read(Desk.ALL + "redirect<!>\"x\";", 1, 9, 255);
+        Desk.read(Desk.ALL + "redirect <!>text:\n.\n;", 1, 9, 255);
+        Desk.read("require\"copy\";require<!>\"x\";", 0, 2, 8);
+        Desk.read("require[\"copy\",<!>\"x\"];", 0, 2, 8);
+        Desk.read(Desk.ALL + "fileinto<!>\"" + "a".repeat(201) + "\";", 1, 8, 255);
+        Desk.read(Desk.ALL + "fileinto<!>\"x;", 1, 8, 255);
+        Desk.read(Desk.ALL + "fileinto\"x\"<!>\"\";", 1, 9, 255);
+        Desk.read(Desk.ALL + "keep<!>\"\";", 1, 8, 255);
+        Desk.read(Desk.ALL + "<!>\"\";", 0, 8, 255);
+        Desk.read("require[" + "\"copy\",".repeat(10) + "<!>\"x\"];", 0, 10, 8);
+    }
+
+    /** Nothing of one check, right or wrong, is left for the next. */
+    private static void oneCheckEach() {
+        Desk.sentence("of the last one that was checked");
+        SieveDesk desk = new SieveDesk();
+        for (int turn = 0; turn < 3; turn++) {
+            Desk.put(desk, Desk.ALL + "if true{".repeat(8) + "if");
+            Desk.due("check()", desk.check(), 1);
+            Desk.due("count(1)", desk.count(1), 16);
+            Desk.due("count(2)", desk.count(2), 8);
+            Desk.due("count(3)", desk.count(3), 255);
+            Desk.put(desk, "if " + "not ".repeat(8) + "true");
+            Desk.due("check()", desk.check(), 1);
+            Desk.due("count(1)", desk.count(1), 9);
+            Desk.due("count(2)", desk.count(2), 0);
+            Desk.due("count(3)", desk.count(3), 0);
+            Desk.put(desk, "keep;".repeat(40));
+            Desk.due("check()", desk.check(), 0);
+            Desk.due("count(1)", desk.count(1), 40);
+            Desk.put(desk, "require\"copy\";if true{redirect:copy\"a@b\";}");
+            Desk.due("count(1) is of the script before", desk.count(1), 40);
+            Desk.due("check()", desk.check(), 0);
+            Desk.due("count(1)", desk.count(1), 3);
+            Desk.due("count(2)", desk.count(2), 2);
+            Desk.due("count(3)", desk.count(3), 8);
+            Desk.due("check() of no script", desk.check(), 0);
+            for (int what = 0; what <= 3; what++) {
+                Desk.due("count(" + what + ")", desk.count(what), 0);
+            }
+        }
     }
 
     private static void required() {

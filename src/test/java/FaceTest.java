@@ -37,14 +37,48 @@ public final class FaceTest {
         Desk.due("public and final", Modifier.isPublic(modifiers) && Modifier.isFinal(modifiers), true);
     }
 
+    /** Each call is the first one of an object of its own. */
     private static void newObject() {
-        SieveDesk desk = new SieveDesk();
-        Desk.due("new: place()", desk.place(), -1);
+        Desk.sentence("No script.");
+        Desk.due("new: place()", new SieveDesk().place(), -1);
         for (int what = 0; what <= 3; what++) {
-            Desk.due("new: count(" + what + ")", desk.count(what), 0);
+            Desk.due("new: count(" + what + ")", new SieveDesk().count(what), 0);
         }
-        Desk.due("new: check()", desk.check(), 0);
-        Desk.due("new, checked: place()", desk.place(), -1);
+        Desk.due("new: count(-1)", new SieveDesk().count(-1), -1);
+        Desk.due("new: count(4)", new SieveDesk().count(4), -1);
+        Desk.due("new: put(;, 1)", new SieveDesk().put(';', 1), true);
+        Desk.due("new: put(;, 0)", new SieveDesk().put(';', 0), false);
+        Desk.due("new: put(.., 8)", new SieveDesk().put(-1L, 8), true);
+        Desk.due("new: put(.., 9)", new SieveDesk().put(-1L, 9), false);
+        Desk.due("new: check()", new SieveDesk().check(), 0);
+        newAndChecked();
+        newAndPut();
+    }
+
+    private static void newAndChecked() {
+        SieveDesk desk = new SieveDesk();
+        for (int turn = 0; turn < 3; turn++) {
+            Desk.due("no script: check()", desk.check(), 0);
+            Desk.due("no script: place()", desk.place(), -1);
+            for (int what = 0; what <= 3; what++) {
+                Desk.due("no script: count(" + what + ")", desk.count(what), 0);
+            }
+        }
+    }
+
+    /** What is put tells nothing of a check yet. */
+    private static void newAndPut() {
+        SieveDesk desk = new SieveDesk();
+        Desk.due("a refused put", desk.put(0x6b6565703bL, 9), false);
+        Desk.due("count(0)", desk.count(0), 0);
+        Desk.put(desk, "require\"copy\";keep;foo");
+        Desk.due("count(0)", desk.count(0), 22);
+        Desk.due("place()", desk.place(), -1);
+        for (int what = 1; what <= 3; what++) {
+            Desk.due("count(" + what + ")", desk.count(what), 0);
+        }
+        Desk.due("check()", desk.check(), 1);
+        Desk.due("place()", desk.place(), 19);
     }
 
     private static void objectsAreApart() {

@@ -2,6 +2,7 @@
 public final class FaultTest {
     public static void main(String[] args) {
         needs();
+        names();
         orders();
         comparators();
         mailboxes();
@@ -48,6 +49,39 @@ public final class FaultTest {
             "require\"fileinto\";fileinto<!>:copy\"a\";", "require\"fileinto\";fileinto<!>:flags\"a\"\"b\";",
             "require\"copy\";<!>fileinto:copy\"a\";", "if true{<!>fileinto\"a\";}", "if not <!>envelope\"a\"\"b\"{}",
             "if header\"i;ascii-numeric\"\"fileinto\"{}", "if exists\"i;ascii-numeric\"{}");
+    }
+
+    /** Each string that is asked for, and those that are it but for a byte. */
+    private static void names() {
+        String numeric = "require\"comparator-i;ascii-numeric\";";
+        String relational = "require\"relational\";";
+        Desk.sentence("one in require that is none of fileinto reject envelope copy imap4flags relational vacation ..");
+        for (String name : new String[] {"fileinto", "reject", "envelope", "copy", "imap4flags", "relational", "vacation",
+            "comparator-i;ascii-numeric"}) {
+            name("require", name, ";");
+            name("require[\"copy\",", name, "];");
+            name("require\"copy\";require[", name, ",\"copy\"];");
+        }
+        Desk.sentence("a string behind :count or :value that is none of gt ge lt le eq ne");
+        for (String name : new String[] {"gt", "ge", "lt", "le", "eq", "ne"}) {
+            name(relational + "if header:count", name, "\"a\"\"b\"{}");
+            name(relational + "if address:all:value", name, ":comparator\"i;octet\"\"a\"\"b\"{}");
+        }
+        Desk.sentence("behind :comparator none of i;octet i;ascii-casemap i;ascii-numeric");
+        for (String name : new String[] {"i;octet", "i;ascii-casemap", "i;ascii-numeric"}) {
+            name(numeric + "if header:comparator", name, "\"a\"\"b\"{}");
+            name(numeric + "if address:domain:comparator", name, ":is\"a\"\"b\"{}");
+        }
+    }
+
+    private static void name(String head, String name, String tail) {
+        Desk.edge(head + "\"" + name + "\"" + tail, head + "<!>\"" + name.substring(1) + "\"" + tail);
+        Desk.edge(head + "\"" + name.toUpperCase() + "\"" + tail, head + "<!>\"" + name + name + "\"" + tail);
+        String first = name.substring(0, 1);
+        Desk.edge(head + "\"" + first.toUpperCase() + name.substring(1) + "\"" + tail, head + "<!>\"" + first + "\"" + tail);
+        Desk.readEach(head + "<!>\"" + name.substring(0, name.length() - 1) + "\"" + tail, head + "<!>\"" + name + " \"" + tail,
+            head + "<!>\" " + name + "\"" + tail, head + "<!>\"" + name + "\u0000\"" + tail, head + "<!>\"\"" + tail,
+            head + " <!>text:\n" + name + "\n.\n" + tail);
     }
 
     private static void orders() {

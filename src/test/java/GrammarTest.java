@@ -1,7 +1,6 @@
 /** Promise 3 and 4 over the productions. */
 public final class GrammarTest {
-    private static final String ALL = "require[\"fileinto\",\"reject\",\"envelope\",\"copy\",\"imap4flags\","
-        + "\"relational\",\"vacation\",\"comparator-i;ascii-numeric\"];";
+    private static final String ALL = Desk.ALL;
 
     public static void main(String[] args) {
         require();

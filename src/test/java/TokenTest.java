@@ -3,6 +3,7 @@ public final class TokenTest {
     public static void main(String[] args) {
         gaps();
         words();
+        eachWord();
         tags();
         numbers();
         quoted();
@@ -30,6 +31,38 @@ public final class TokenTest {
             "<!>keeps;", "<!>keep_;", "<!>keep1;", "<!>_keep;", "<!>_;", "<!>k;", "<!>kee;", "<!>if1 true{}", "if <!>true_{}",
             "if <!>nottrue{}", "if not<!>{}", "<!>keepkeep;",
             "<!>text;", "<!>text", "<!>text :x", "<!>copy;", "<!>is;", "<!>header;", "if <!>keep{}", "if <!>copy{}");
+    }
+
+    /** What stands before a word of the language, the word or tag, and what goes on behind it. */
+    private static final String[][] WORDS = {{"", "require", "\"copy\";"}, {"", "if", " true{}"}, {"if true{}", "elsif", " true{}"},
+        {"if true{}", "else", "{}"}, {"", "stop", ";"}, {"", "discard", ";"}, {"", "keep", ";"}, {"", "fileinto", "\"a\";"},
+        {"", "redirect", "\"a@b\";"}, {"", "reject", "\"a\";"}, {"", "setflag", "\"a\";"}, {"", "addflag", "\"a\";"},
+        {"", "removeflag", "\"a\";"}, {"", "vacation", "\"a\";"}, {"if ", "header", "\"a\"\"b\"{}"},
+        {"if ", "address", "\"a\"\"b\"{}"}, {"if ", "envelope", "\"a\"\"b\"{}"}, {"if ", "hasflag", "\"a\"{}"},
+        {"if ", "exists", "\"a\"{}"}, {"if ", "size", ":over 1{}"}, {"if ", "allof", "(true){}"}, {"if ", "anyof", "(true){}"},
+        {"if ", "not", " true{}"}, {"if ", "true", "{}"}, {"if ", "false", "{}"}, {"keep", ":flags", "\"a\";"},
+        {"fileinto", ":flags", "\"a\"\"b\";"}, {"fileinto", ":copy", "\"a\";"}, {"redirect", ":copy", "\"a@b\";"},
+        {"vacation", ":days", " 1\"a\";"}, {"vacation", ":subject", "\"a\"\"b\";"}, {"vacation", ":addresses", "\"a\"\"b\";"},
+        {"vacation", ":handle", "\"a\"\"b\";"}, {"if header", ":is", "\"a\"\"b\"{}"}, {"if header", ":contains", "\"a\"\"b\"{}"},
+        {"if header", ":matches", "\"a\"\"b\"{}"}, {"if header", ":count", "\"gt\"\"a\"\"b\"{}"},
+        {"if header", ":value", "\"gt\"\"a\"\"b\"{}"}, {"if header", ":comparator", "\"i;octet\"\"a\"\"b\"{}"},
+        {"if address", ":all", "\"a\"\"b\"{}"}, {"if address", ":localpart", "\"a\"\"b\"{}"},
+        {"if address", ":domain", "\"a\"\"b\"{}"}, {"if size", ":over", " 1{}"}, {"if size", ":under", " 1{}"}};
+
+    private static void eachWord() {
+        for (String[] row : WORDS) {
+            String before = (row[1].equals("require") ? "" : Desk.ALL) + row[0];
+            String word = row[1];
+            Desk.sentence("WORDS: .. (compared without case, here and below)");
+            Desk.readEach(before + word + row[2], before + word.toUpperCase() + row[2],
+                before + word.substring(0, 2).toUpperCase() + word.substring(2) + row[2], before + "\n" + word + "\n" + row[2]);
+            Desk.sentence("a token with which no script goes on");
+            String cut = word.substring(0, word.length() - 1);
+            for (String wrong : new String[] {cut, cut + "_", word + "x", word + "_", word + "0", word + word.charAt(word.length() - 1),
+                word.substring(0, 1) + "_" + word.substring(1), word.charAt(0) == ':' ? word.substring(1) : ":" + word}) {
+                Desk.read(before + " <!>" + wrong + row[2]);
+            }
+        }
     }
 
     private static void tags() {

@@ -4,18 +4,27 @@ import java.nio.charset.StandardCharsets;
 final class Desk {
     /** Stands in a script right before the token that is at fault. */
     static final String FAULT = "<!>";
+    /** Requires all that can be required; eight strings. */
+    static final String ALL = "require[\"fileinto\",\"reject\",\"envelope\",\"copy\",\"imap4flags\","
+        + "\"relational\",\"vacation\",\"comparator-i;ascii-numeric\"];";
 
+    private static String sentence = "";
     private static int wrong = 0;
     private static int asked = 0;
 
     private Desk() {
     }
 
+    /** The document's words that the calls behind this are for; told with a wrong answer. */
+    static void sentence(String words) {
+        sentence = "[" + words + "] ";
+    }
+
     static void due(String call, long got, long want) {
         asked++;
         if (got != want) {
             wrong++;
-            System.out.println(call + " answered " + got + ", due is " + want);
+            System.out.println(sentence + call + " answered " + got + ", due is " + want);
         }
     }
 
@@ -67,6 +76,23 @@ final class Desk {
         due(marked + ": count(1)", desk.count(1), things);
         due(marked + ": count(2)", desk.count(2), strings);
         due(marked + ": count(3)", desk.count(3), required);
+    }
+
+    /** The last script that is still right, and the first that is not, with its fault marked. */
+    static void edge(String right, String wrongOne) {
+        due(right + ": has no mark", right.contains(FAULT), false);
+        due(wrongOne + ": has a mark", wrongOne.contains(FAULT), true);
+        read(right);
+        read(wrongOne);
+    }
+
+    /** A list of as many strings, each of them with these bytes. */
+    static String list(int many, String said) {
+        StringBuilder list = new StringBuilder("[");
+        for (int i = 0; i < many; i++) {
+            list.append(i == 0 ? "" : ",").append('"').append(said).append('"');
+        }
+        return list.append("]").toString();
     }
 
     /** Reads each of the scripts. */
