@@ -1,5 +1,17 @@
 /** Promises 3, 4 and 5 over several scripts on one object, and what count answers behind a fault. */
 public final class CountTest {
+    /** Tokens; behind a | what one adds: c a command or test, s a string, a number what is required. */
+    private static final String[] WALKS = {
+        "require [ \"fileinto\"|1 , \"copy\"|8 , \"imap4flags\"|16 ] ; require \"relational\"|32 ; require \"COPY\"|8 ; "
+            + "if|c allof|c ( header|c :count \"ge\"|s :comparator \"i;octet\"|s [ \"a\"|s , \"b\"|s ] \"c\"|s , "
+            + "not|c size|c :over 1K , hasflag|c \"x\"|s ) { fileinto|c :copy :flags \"f\"|s \"box\"|s ; } "
+            + "keep|c :flags [ \"a\"|s ] ;",
+        "require [ \"reject\"|2 , \"envelope\"|4 , \"vacation\"|64 , \"comparator-i;ascii-numeric\"|128 ] ; "
+            + "if|c true|c { stop|c ; } elsif exists|c text:\n.\n|s { if|c false|c { } } else { discard|c ; } "
+            + "vacation|c :days 1 :subject \"s\"|s :addresses [ \"a\"|s , \"b\"|s ] :handle \"h\"|s \"r\"|s ; "
+            + "redirect|c \"a@b\"|s ; reject|c \"\"|s ; "
+            + "if|c envelope|c :domain :comparator \"i;ascii-numeric\"|s \"a\"|s \"b\"|s { }"};
+
     public static void main(String[] args) {
         whats();
         aheadOfTheFault();
@@ -36,41 +48,38 @@ public final class CountTest {
         Desk.due("the one ahead of it: count(-1)", desk.count(-1), -1);
     }
 
-    /** Tokens, each with what it adds: c a command or test, s a string, a number what is required. */
-    private static final String[][] WALKS = {
-        {"require", "", "[", "", "\"fileinto\"", "1", ",", "", "\"copy\"", "8", ",", "", "\"imap4flags\"", "16", "]", "", ";", "",
-            "require", "", "\"relational\"", "32", ";", "", "require", "", "\"COPY\"", "8", ";", "",
-            "if", "c", "allof", "c", "(", "", "header", "c", ":count", "", "\"ge\"", "s", ":comparator", "", "\"i;octet\"", "s",
-            "[", "", "\"a\"", "s", ",", "", "\"b\"", "s", "]", "", "\"c\"", "s", ",", "", "not", "c", "size", "c", ":over", "", "1K", "",
-            ",", "", "hasflag", "c", "\"x\"", "s", ")", "", "{", "", "fileinto", "c", ":copy", "", ":flags", "", "\"f\"", "s",
-            "\"box\"", "s", ";", "", "}", "", "keep", "c", ":flags", "", "[", "", "\"a\"", "s", "]", "", ";", ""},
-        {"require", "", "[", "", "\"reject\"", "2", ",", "", "\"envelope\"", "4", ",", "", "\"vacation\"", "64", ",", "",
-            "\"comparator-i;ascii-numeric\"", "128", "]", "", ";", "", "if", "c", "true", "c", "{", "", "stop", "c", ";", "", "}", "",
-            "elsif", "", "exists", "c", "text:\n.\n", "s", "{", "", "if", "c", "false", "c", "{", "", "}", "", "}", "", "else", "", "{", "",
-            "discard", "c", ";", "", "}", "", "vacation", "c", ":days", "", "1", "", ":subject", "", "\"s\"", "s", ":addresses", "",
-            "[", "", "\"a\"", "s", ",", "", "\"b\"", "s", "]", "", ":handle", "", "\"h\"", "s", "\"r\"", "s", ";", "",
-            "redirect", "c", "\"a@b\"", "s", ";", "", "reject", "c", "\"\"", "s", ";", "", "if", "c", "envelope", "c", ":domain", "",
-            ":comparator", "", "\"i;ascii-numeric\"", "s", "\"a\"", "s", "\"b\"", "s", "{", "", "}", ""}};
-
-    /** Cuts the scripts behind each token: by the end, and by a byte at which no token stands. */
+    /** Cuts the scripts behind each token: by the end, and by what no script goes on with. */
     private static void aheadOfTheFault() {
         Desk.sentence("as far as it was read ahead of its fault's token");
-        for (String[] walk : WALKS) {
+        for (String walk : WALKS) {
             StringBuilder script = new StringBuilder();
             int things = 0;
             int strings = 0;
             int required = 0;
-            for (int i = 0; i < walk.length; i += 2) {
+            for (String step : walk.split(" ")) {
+                String[] token = step.split("\\|");
+                String adds = token.length > 1 ? token[1] : "";
+                cutByTheEnd(script.toString(), things, strings, required);
                 Desk.read(script + "<!>@", things, strings, required);
                 Desk.read(script + "<!>foo\n\"\" keep;", things, strings, required);
-                Desk.read(script + "<!>/*" + walk[i], things, strings, required);
-                script.append(walk[i]).append(' ');
-                things += walk[i + 1].equals("c") ? 1 : 0;
-                strings += walk[i + 1].isEmpty() || walk[i + 1].equals("c") ? 0 : 1;
-                required |= walk[i + 1].matches("[0-9]+") ? Integer.parseInt(walk[i + 1]) : 0;
+                Desk.read(script + "<!>/*" + token[0], things, strings, required);
+                script.append(token[0]).append(' ');
+                things += adds.equals("c") ? 1 : 0;
+                strings += adds.isEmpty() || adds.equals("c") ? 0 : 1;
+                required |= adds.matches("[0-9]+") ? Integer.parseInt(adds) : 0;
             }
             Desk.read(script.toString(), things, strings, required);
         }
+    }
+
+    /** Right or not: whether a script may end here is for other tests. */
+    private static void cutByTheEnd(String script, int things, int strings, int required) {
+        SieveDesk desk = new SieveDesk();
+        Desk.put(desk, script);
+        desk.check();
+        Desk.due(script + ": count(1)", desk.count(1), things);
+        Desk.due(script + ": count(2)", desk.count(2), strings);
+        Desk.due(script + ": count(3)", desk.count(3), required);
     }
 
     /** Each such string counts; the same one where it is at fault for something else does not. */

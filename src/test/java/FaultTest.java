@@ -2,7 +2,9 @@
 public final class FaultTest {
     public static void main(String[] args) {
         needs();
+        needNothing();
         names();
+        namesElsewhere();
         orders();
         comparators();
         mailboxes();
@@ -49,6 +51,51 @@ public final class FaultTest {
             "require\"fileinto\";fileinto<!>:copy\"a\";", "require\"fileinto\";fileinto<!>:flags\"a\"\"b\";",
             "require\"copy\";<!>fileinto:copy\"a\";", "if true{<!>fileinto\"a\";}", "if not <!>envelope\"a\"\"b\"{}",
             "if header\"i;ascii-numeric\"\"fileinto\"{}", "if exists\"i;ascii-numeric\"{}");
+    }
+
+    /** What is not told to need something is right with nothing required. */
+    private static void needNothing() {
+        Desk.sentence("a word, tag or string that needs one of these, which was not required");
+        for (String tag : new String[] {"", ":is", ":contains", ":matches", ":comparator\"i;octet\"",
+            ":comparator\"i;ascii-casemap\"", ":all", ":localpart", ":domain"}) {
+            Desk.read("if address" + tag + "\"a\"\"b\"{}", 2, tag.contains("\"") ? 3 : 2, 0);
+        }
+        Desk.read("if header:is:comparator\"i;octet\"\"a\"\"b\"{}", 2, 3, 0);
+        Desk.read("if allof(exists\"a\",size:over 1,size:under 1,anyof(not true,false)){}elsif true{}else{}", 10, 1, 0);
+        Desk.read("stop;discard;keep;redirect\"a@b\";", 4, 1, 0);
+        // The tags of vacation need no more than vacation itself.
+        Desk.read("require\"vacation\";vacation:days 1:subject\"a\":addresses\"b\":handle\"c\"\"d\";", 1, 5, 64);
+        Desk.read("require\"imap4flags\";if hasflag:is\"a\"{keep:flags\"a\";setflag\"a\";addflag\"a\";removeflag\"a\";}", 6, 6, 16);
+        Desk.read("require\"fileinto\";require\"copy\";fileinto:copy\"a\";", 1, 3, 9);
+        Desk.read("require\"fileinto\";require\"imap4flags\";fileinto:flags\"a\"\"a\";", 1, 4, 17);
+    }
+
+    /** A string that is asked for in one place says nothing in the others. */
+    private static void namesElsewhere() {
+        String[] required = {"fileinto", "reject", "envelope", "copy", "imap4flags", "relational", "vacation",
+            "comparator-i;ascii-numeric"};
+        String[] orders = {"gt", "ge", "lt", "le", "eq", "ne"};
+        String[] comparators = {"i;octet", "i;ascii-casemap", "i;ascii-numeric"};
+        String[] others = {"a", "a@b", ":is", "keep", "is"};
+        String header = Desk.ALL + "if header";
+        Desk.sentence("one in require that is none of fileinto reject envelope copy imap4flags relational vacation ..");
+        elsewhere("require", ";", orders, comparators, others);
+        elsewhere("require[\"copy\",", "];", orders, comparators, others);
+        Desk.sentence("a string behind :count or :value that is none of gt ge lt le eq ne");
+        elsewhere(header + ":count", "\"\"\"\"{}", required, comparators, others);
+        elsewhere(header + ":value", "\"\"\"\"{}", required, comparators, others);
+        Desk.sentence("behind :comparator none of i;octet i;ascii-casemap i;ascii-numeric");
+        elsewhere(header + ":comparator", "\"\"\"\"{}", required, orders, others);
+        Desk.sentence("behind redirect no ADDRESS");
+        elsewhere("redirect", ";", required, orders, comparators);
+    }
+
+    private static void elsewhere(String head, String tail, String[]... kinds) {
+        for (String[] names : kinds) {
+            for (String name : names) {
+                Desk.read(head + "<!>\"" + name + "\"" + tail);
+            }
+        }
     }
 
     /** Each string that is asked for, and those that are it but for a byte. */
