@@ -1,6 +1,10 @@
 /** Promise 3 and 4 over the productions. */
 public final class GrammarTest {
     private static final String ALL = Desk.ALL;
+    private static final String COMMANDS = " if stop discard keep fileinto redirect reject setflag addflag removeflag vacation ";
+    private static final String TESTS = " header address envelope hasflag exists size allof anyof not true false ";
+    private static final String OTHERS = " require elsif else is contains matches count value comparator all localpart domain "
+        + "flags copy days subject addresses handle over under text string number strings script command block test how and or ";
 
     public static void main(String[] args) {
         require();
@@ -11,6 +15,7 @@ public final class GrammarTest {
         ifs();
         headerTests();
         otherTests();
+        wordsOutOfPlace();
         Desk.end();
     }
 
@@ -141,5 +146,34 @@ public final class GrammarTest {
             "if allof(<!>(true)){}", "if allof(<!>keep){}", "if allof(true,<!>",
             "if not true{}", "if not not false{}", "if not<!>{}", "if not<!>(true){}", "if not true<!>,false{}",
             "if true<!>(){}", "if false<!>\"a\"{}", "if <!>foo{}", "if <!>\"a\"{}", "if <!>1{}", "if<!>;");
+    }
+
+    /** Each word at each place where a word may stand: it goes on there, up to the end, or is at fault. */
+    private static void wordsOutOfPlace() {
+        Desk.sentence("a token with which no script goes on");
+        for (String word : (COMMANDS + TESTS + OTHERS).trim().split(" +")) {
+            place(ALL, word, COMMANDS + "require ");
+            place(ALL + "keep;", word, COMMANDS);
+            place(ALL + "if true{", word, COMMANDS);
+            place(ALL + "if true{}", word, COMMANDS + "elsif else ");
+            place(ALL + "if true{}elsif true{}", word, COMMANDS + "elsif else ");
+            place(ALL + "if true{}else{}", word, COMMANDS);
+            place(ALL + "if true{}keep;", word, COMMANDS);
+            place(ALL + "if true{if true{}", word, COMMANDS + "elsif else ");
+            place(ALL + "if true{}else{", word, COMMANDS);
+            for (String head : new String[] {"if ", "if not ", "if allof(", "if anyof(true,", "if true{}elsif "}) {
+                place(ALL + head, word, TESTS);
+            }
+            for (String head : new String[] {"keep ", "stop ", "redirect ", "reject ", "require ", "require[", "fileinto ", "setflag ",
+                "vacation ", "vacation:days ", "if header ", "if header\"a\"", "if exists[\"a\",", "if size ", "if size:over ",
+                "if allof ", "if allof(true ", "if true ", "if true{}else "}) {
+                place((head.startsWith("require") ? "" : ALL) + head, word, "");
+            }
+        }
+    }
+
+    private static void place(String head, String word, String goOn) {
+        Desk.read(goOn.contains(" " + word + " ") ? head + word + "<!>" : head + "<!>" + word);
+        Desk.read(goOn.contains(" " + word + " ") ? head + word + "<!>@" : head + "<!>" + word + "@");
     }
 }

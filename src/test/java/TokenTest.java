@@ -1,5 +1,21 @@
 /** Promise 3 and 4 over the tokens, and the gaps between them. */
 public final class TokenTest {
+    /** What stands before a word of the language, the word or tag, and what goes on behind it. */
+    private static final String[][] WORDS = {{"", "require", "\"copy\";"}, {"", "if", " true{}"}, {"if true{}", "elsif", " true{}"},
+        {"if true{}", "else", "{}"}, {"", "stop", ";"}, {"", "discard", ";"}, {"", "keep", ";"}, {"", "fileinto", "\"a\";"},
+        {"", "redirect", "\"a@b\";"}, {"", "reject", "\"a\";"}, {"", "setflag", "\"a\";"}, {"", "addflag", "\"a\";"},
+        {"", "removeflag", "\"a\";"}, {"", "vacation", "\"a\";"}, {"if ", "header", "\"a\"\"b\"{}"},
+        {"if ", "address", "\"a\"\"b\"{}"}, {"if ", "envelope", "\"a\"\"b\"{}"}, {"if ", "hasflag", "\"a\"{}"},
+        {"if ", "exists", "\"a\"{}"}, {"if ", "size", ":over 1{}"}, {"if ", "allof", "(true){}"}, {"if ", "anyof", "(true){}"},
+        {"if ", "not", " true{}"}, {"if ", "true", "{}"}, {"if ", "false", "{}"}, {"keep", ":flags", "\"a\";"},
+        {"fileinto", ":flags", "\"a\"\"b\";"}, {"fileinto", ":copy", "\"a\";"}, {"redirect", ":copy", "\"a@b\";"},
+        {"vacation", ":days", " 1\"a\";"}, {"vacation", ":subject", "\"a\"\"b\";"}, {"vacation", ":addresses", "\"a\"\"b\";"},
+        {"vacation", ":handle", "\"a\"\"b\";"}, {"if header", ":is", "\"a\"\"b\"{}"}, {"if header", ":contains", "\"a\"\"b\"{}"},
+        {"if header", ":matches", "\"a\"\"b\"{}"}, {"if header", ":count", "\"gt\"\"a\"\"b\"{}"},
+        {"if header", ":value", "\"gt\"\"a\"\"b\"{}"}, {"if header", ":comparator", "\"i;octet\"\"a\"\"b\"{}"},
+        {"if address", ":all", "\"a\"\"b\"{}"}, {"if address", ":localpart", "\"a\"\"b\"{}"},
+        {"if address", ":domain", "\"a\"\"b\"{}"}, {"if size", ":over", " 1{}"}, {"if size", ":under", " 1{}"}};
+
     public static void main(String[] args) {
         gaps();
         words();
@@ -32,22 +48,6 @@ public final class TokenTest {
             "if <!>nottrue{}", "if not<!>{}", "<!>keepkeep;",
             "<!>text;", "<!>text", "<!>text :x", "<!>copy;", "<!>is;", "<!>header;", "if <!>keep{}", "if <!>copy{}");
     }
-
-    /** What stands before a word of the language, the word or tag, and what goes on behind it. */
-    private static final String[][] WORDS = {{"", "require", "\"copy\";"}, {"", "if", " true{}"}, {"if true{}", "elsif", " true{}"},
-        {"if true{}", "else", "{}"}, {"", "stop", ";"}, {"", "discard", ";"}, {"", "keep", ";"}, {"", "fileinto", "\"a\";"},
-        {"", "redirect", "\"a@b\";"}, {"", "reject", "\"a\";"}, {"", "setflag", "\"a\";"}, {"", "addflag", "\"a\";"},
-        {"", "removeflag", "\"a\";"}, {"", "vacation", "\"a\";"}, {"if ", "header", "\"a\"\"b\"{}"},
-        {"if ", "address", "\"a\"\"b\"{}"}, {"if ", "envelope", "\"a\"\"b\"{}"}, {"if ", "hasflag", "\"a\"{}"},
-        {"if ", "exists", "\"a\"{}"}, {"if ", "size", ":over 1{}"}, {"if ", "allof", "(true){}"}, {"if ", "anyof", "(true){}"},
-        {"if ", "not", " true{}"}, {"if ", "true", "{}"}, {"if ", "false", "{}"}, {"keep", ":flags", "\"a\";"},
-        {"fileinto", ":flags", "\"a\"\"b\";"}, {"fileinto", ":copy", "\"a\";"}, {"redirect", ":copy", "\"a@b\";"},
-        {"vacation", ":days", " 1\"a\";"}, {"vacation", ":subject", "\"a\"\"b\";"}, {"vacation", ":addresses", "\"a\"\"b\";"},
-        {"vacation", ":handle", "\"a\"\"b\";"}, {"if header", ":is", "\"a\"\"b\"{}"}, {"if header", ":contains", "\"a\"\"b\"{}"},
-        {"if header", ":matches", "\"a\"\"b\"{}"}, {"if header", ":count", "\"gt\"\"a\"\"b\"{}"},
-        {"if header", ":value", "\"gt\"\"a\"\"b\"{}"}, {"if header", ":comparator", "\"i;octet\"\"a\"\"b\"{}"},
-        {"if address", ":all", "\"a\"\"b\"{}"}, {"if address", ":localpart", "\"a\"\"b\"{}"},
-        {"if address", ":domain", "\"a\"\"b\"{}"}, {"if size", ":over", " 1{}"}, {"if size", ":under", " 1{}"}};
 
     private static void eachWord() {
         for (String[] row : WORDS) {
